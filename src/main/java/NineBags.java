@@ -9,6 +9,7 @@ public final class NineBags {
     private static final int MOST_KINDS = 5;
     private static final int MOST_CHILDREN = 4;
     private static final int MOST_THINGS = 7;
+    private static final int MOST_PAIRS = MOST_CHILDREN * (MOST_CHILDREN - 1);
     private static final int MOST_COST = 999;
     private static final int MOST_DAYS = 99;
     private static final int MOST_BANNED = 31;
@@ -24,8 +25,7 @@ public final class NineBags {
     private static final int MOST_SETTLING = 50;
     private static final int BILLION = 1000000000;
 
-    private final Script text = new Script();
-    private final Reader reader = new Reader(text);
+    private final Reader text = new Reader();
     private final Hands hands = new Hands();
     private final Worths worths = new Worths();
     private final Past past = new Past();
@@ -35,7 +35,6 @@ public final class NineBags {
     private final Guess guess = new Guess();
     private Party party = new Party();
     private Party draft = new Party();
-    private int faultPlace = NONE;
     private int chance = 0;
 
     public NineBags() {
@@ -55,8 +54,7 @@ public final class NineBags {
     }
 
     public int party() {
-        int found = reader.read(draft);
-        faultPlace = reader.faultPlace();
+        int found = text.readInto(draft);
         text.clear();
         if (found != Reader.NO_FAULT) {
             return -10 - found;
@@ -73,7 +71,7 @@ public final class NineBags {
     }
 
     public int fault() {
-        return faultPlace;
+        return text.faultPlace();
     }
 
     public int told(int what) {
@@ -448,53 +446,28 @@ public final class NineBags {
         return party.children * each - 2 * longUsed <= shortOnes;
     }
 
-    /** The text that a party is told in, letter by letter. */
-    private static final class Script {
-        private static final int END = -1;
-
-        private final int[] letters = new int[MOST_LETTERS];
-        private int count = 0;
-
-        int length() {
-            return count;
-        }
-
-        boolean isFull() {
-            return count >= MOST_LETTERS;
-        }
-
-        void append(int letter) {
-            if (count < MOST_LETTERS) {
-                letters[count] = letter;
-                count++;
-            }
-        }
-
-        int at(int place) {
-            return place >= 0 && place < count ? letters[place] : END;
-        }
-
-        void clear() {
-            count = 0;
-        }
-    }
-
     /** What a text tells: kinds, children, things; who has which thing is not part of it. */
     private static final class Party {
         private int kinds = 0;
         private int children = 0;
         private int things = 0;
+        private int pairs = 0;
         private final int[] costs = new int[MOST_KINDS];
         private final int[] days = new int[MOST_KINDS];
         private final int[] banned = new int[MOST_CHILDREN];
         private final int[] looks = new int[MOST_CHILDREN];
         private final int[] prices = new int[MOST_CHILDREN * MOST_KINDS];
+        // Kept apart from the prices, as they are asked for in each of thousands of ways.
+        private final int[] worthsOfKinds = new int[MOST_CHILDREN * MOST_KINDS];
+        private final int[] lookers = new int[MOST_PAIRS];
+        private final int[] lookedAt = new int[MOST_PAIRS];
         private final int[] kindOf = new int[MOST_THINGS];
 
         void clear() {
             kinds = 0;
             children = 0;
             things = 0;
+            pairs = 0;
         }
 
         void addKind(int cost, int lastingDays) {
@@ -516,13 +489,19 @@ public final class NineBags {
             if (children < MOST_CHILDREN) {
                 banned[children] = bannedKinds;
                 looks[children] = 0;
+                for (int k = 0; k < kinds; k++) {
+                    worthsOfKinds[children * MOST_KINDS + k] = isBanned(children, k) ? 0 : priceOf(children, k);
+                }
                 children++;
             }
         }
 
         void addLook(int c, int d) {
-            if (hasPair(c, d)) {
+            if (hasPair(c, d) && !looksAt(c, d) && pairs < MOST_PAIRS) {
                 looks[c] |= 1 << d;
+                lookers[pairs] = c;
+                lookedAt[pairs] = d;
+                pairs++;
             }
         }
 
@@ -562,7 +541,7 @@ public final class NineBags {
         }
 
         int worthOfKind(int c, int k) {
-            return isBanned(c, k) ? 0 : priceOf(c, k);
+            return worthsOfKinds[c * MOST_KINDS + k];
         }
 
         int worthOfThing(int c, int t) {
@@ -578,7 +557,7 @@ public final class NineBags {
         }
     }
 
-    /** Reads a text into a party and stops at the first fault. */
+    /** Takes a text letter by letter, and reads it into a party up to its first fault. */
     private static final class Reader {
         private static final int NO_FAULT = 0;
         private static final int CANNOT_STAND = 1;
@@ -587,27 +566,47 @@ public final class NineBags {
         private static final int BAD_LOOK = 4;
         private static final int MOST_FIGURES = 3;
 
-        private final Script text;
+        private static final int END = -1;
+
+        private final int[] letters = new int[MOST_LETTERS];
+        private int count = 0;
         private int place = 0;
         private int numberPlace = 0;
         private int fault = NO_FAULT;
         private int faultPlace = NONE;
 
-        Reader(Script text) {
-            this.text = text;
+        int length() {
+            return count;
         }
 
+        boolean isFull() {
+            return count >= MOST_LETTERS;
+        }
+
+        void append(int letter) {
+            if (count < MOST_LETTERS) {
+                letters[count] = letter;
+                count++;
+            }
+        }
+
+        void clear() {
+            count = 0;
+        }
+
+        /** Of the text read latest, though it is cleared. */
         int faultPlace() {
             return faultPlace;
         }
 
-        int read(Party party) {
+        /** The fault's number; with one the party is of no use. */
+        int readInto(Party party) {
             place = 0;
             fault = NO_FAULT;
             faultPlace = NONE;
             party.clear();
             skipBlanks();
-            for (int clause = 0; clause < MOST_LETTERS && place < text.length() && fault == NO_FAULT; clause++) {
+            for (int clause = 0; clause < MOST_LETTERS && place < count && fault == NO_FAULT; clause++) {
                 readClause(party);
                 skipBlanks();
             }
@@ -615,7 +614,7 @@ public final class NineBags {
         }
 
         private void readClause(Party party) {
-            switch (text.at(place)) {
+            switch (letterHere()) {
                 case 'k':
                     readKind(party);
                     break;
@@ -698,9 +697,9 @@ public final class NineBags {
             skipBlanks();
             numberPlace = place;
             int number = 0;
-            for (; place < text.length() && isFigure(text.at(place)); place++) {
+            for (; place < count && isFigureHere(); place++) {
                 if (place - numberPlace < MOST_FIGURES) {
-                    number = number * 10 + text.at(place) - '0';
+                    number = number * 10 + letterHere() - '0';
                 }
             }
             int figures = place - numberPlace;
@@ -717,7 +716,7 @@ public final class NineBags {
                 return;
             }
             skipBlanks();
-            if (text.at(place) == sign) {
+            if (letterHere() == sign) {
                 place++;
             } else {
                 fail(CANNOT_STAND, place);
@@ -725,13 +724,17 @@ public final class NineBags {
         }
 
         private void skipBlanks() {
-            while (place < text.length() && text.at(place) == ' ') {
+            while (place < count && letterHere() == ' ') {
                 place++;
             }
         }
 
-        private boolean isFigure(int letter) {
-            return letter >= '0' && letter <= '9';
+        private int letterHere() {
+            return place >= 0 && place < count ? letters[place] : END;
+        }
+
+        private boolean isFigureHere() {
+            return letterHere() >= '0' && letterHere() <= '9';
         }
 
         /** Reading goes from left to right, so that the fault found first is the one to tell. */
@@ -748,7 +751,9 @@ public final class NineBags {
         private final int[] holder = new int[MOST_THINGS];
 
         Hands() {
-            Arrays.fill(holder, NONE);
+            for (int t = 0; t < MOST_THINGS; t++) {
+                holder[t] = NONE;
+            }
         }
 
         void layAllOnTable() {
@@ -842,15 +847,13 @@ public final class NineBags {
         }
 
         int grudge(Party party, int c, int d) {
-            return party.looksAt(c, d) ? Math.max(0, of(c, d) - of(c, c)) : 0;
+            return party.looksAt(c, d) ? Math.max(0, lead(c, d)) : 0;
         }
 
         int allGrudges(Party party) {
             int sum = 0;
-            for (int c = 0; c < party.children; c++) {
-                for (int d = 0; d < party.children; d++) {
-                    sum += grudge(party, c, d);
-                }
+            for (int p = 0; p < party.pairs; p++) {
+                sum += Math.max(0, lead(party.lookers[p], party.lookedAt[p]));
             }
             return sum;
         }
@@ -862,14 +865,19 @@ public final class NineBags {
         /** The set of pairs with envy, by pairBit. */
         int enviedPairs(Party party) {
             int set = 0;
-            for (int c = 0; c < party.children; c++) {
-                for (int d = 0; d < party.children; d++) {
-                    if (grudge(party, c, d) > 0) {
-                        set |= pairBit(c, d);
-                    }
+            for (int p = 0; p < party.pairs; p++) {
+                int c = party.lookers[p];
+                int d = party.lookedAt[p];
+                if (lead(c, d) > 0) {
+                    set |= pairBit(c, d);
                 }
             }
             return set;
+        }
+
+        /** By how much d's bag is worth more to c than its own. */
+        private int lead(int c, int d) {
+            return of(c, d) - of(c, c);
         }
 
         static int pairBit(int c, int d) {

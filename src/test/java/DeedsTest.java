@@ -40,6 +40,8 @@ public final class DeedsTest {
         Check.due("0 has 0 again", bags.thing(0, 1), 0);
         bags.give(3, 2);
         Check.due("better for one, alike for the other", bags.swap(0, 3), 1);
+        Check.due("worse for one, alike for the other", bags.swap(0, 3), 0);
+        Check.due("better the other way round", bags.swap(3, 0), 1);
         bags.give(2, 1);
         bags.take(1);
         Check.due("alike for both", bags.swap(0, 2), 0);

@@ -183,6 +183,11 @@ public final class PartyTextTest {
     }
 
     private static void newPartyClears() {
+        NineBags one = Check.partyOf("k1 1;c0 9;c0 9;l0 1;t0;", 2);
+        Check.due("who should have it", one.share(0), 0);
+        Check.feedAll(one, "k1 1;c0 9;c0 9;l1 0;t0;");
+        Check.due("the other one looks", one.party(), 2);
+        Check.due("who should have it now", one.share(0), 1);
         NineBags bags = Check.partyOf(Check.NINE, 3);
         Check.due("share ahead", bags.share(2), 2);
         Check.due("had ahead", bags.had(-1), 243);
@@ -208,7 +213,8 @@ public final class PartyTextTest {
         Check.due("no undo", bags.undo(), NineBags.NOT);
         Check.due("no image", bags.goBack(0), NineBags.NOT);
         Check.due("looks anew", bags.child(0, 3), 0);
-        Check.due("share anew", bags.share(1), 1);
+        Check.due("share anew: who has 0", bags.share(0), 0);
+        Check.due("share anew: who has 1", bags.share(1), 1);
         Check.due("had anew", bags.had(-1), 4);
         Check.due("the seed stays", bags.seed(0), 77);
         Check.due("no party at all", bags.party(), 0);

@@ -78,6 +78,7 @@ public final class SeenTest {
         bags.see(1, 2, false);
         Check.due("no ways", bags.watch(), -1);
         Check.due("no party", new NineBags().watch(), -1);
+        Check.due("1 at 0", Check.partyOf("k1 1;c0 9;c0 9;l1 0;t0;", 2).watch(), 10);
         // Two things: 0 at 1 parts 3 to 6, 1 at 2, of whom it wants one kind alone, as well; 0 at 1 by amounts would part finer.
         NineBags two = Check.partyOf("k1 1;k1 1;c0 1,2;c0 0,2;c0 1,1;l1 2;l2 0;t0;t1;", 3);
         // 1 at 2: thing 1 with 2: 3 of 9. 2 at 0: 0 has more things than 2: (0,0) (0,1) (1,0): 3 of 9.

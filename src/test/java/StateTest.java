@@ -27,6 +27,11 @@ public final class StateTest {
         Check.due("ill", bags.told(7), 2);
         bags.take(3);
         Check.due("nobody ill", bags.told(7), 0);
+        NineBags first = Check.partyOf("k1 1;c1 5;c0 5;c1 5;t0;t0;t0;", 3);
+        first.give(0, 0);
+        Check.due("ill by thing 0", first.told(7), 1);
+        first.draw(1);
+        Check.due("ill by thing 2 too", first.told(7), 5);
         Check.due("costs of all, on the table too", bags.told(8), 530);
         bags.see(0, 1, true);
         bags.see(0, 1, true);

@@ -69,6 +69,10 @@ public final class TrialsTest {
         for (int t = 0; t < 4; t++) {
             Check.due("even: share(" + t + ")", even.share(t), evenWant[t]);
         }
+        NineBags greedy = Check.partyOf("k1 1;c0 9;c0 0;l0 1;t0;t0;t0;t0;", 2);
+        for (int t = 0; t < 4; t++) {
+            Check.due("not all to 0: share(" + t + ")", greedy.share(t), evenWant[t]);
+        }
         NineBags odd = Check.partyOf("k1 1;c0 0;c0 9;l1 0;t0;t0;t0;", 2);
         Check.due("odd: how much", odd.share(-1), 0);
         Check.due("odd: the first to 0", odd.share(0), 0);
@@ -220,6 +224,9 @@ public final class TrialsTest {
         Check.due("99 of 100", sure.dry(), 10000000);
         sure.give(1, 1);
         Check.due("100 of 100", sure.dry(), 0);
+        NineBags atFirst = Check.partyOf("k1 1;c0 10;c0 20;l1 0;l0 1;t0;", 2);
+        atFirst.give(0, 0);
+        Check.due("1 cries at 0", atFirst.dry(), 800000000);
         Check.due("no party", new NineBags().dry(), 1000000000);
         NineBags order = Check.partyOf("k1 1;c0 97;c0 93;c0 89;l0 1;l0 2;l1 2;l2 1;t0;t0;", 3);
         order.give(0, 1);

@@ -457,7 +457,7 @@ public final class NineBags {
         private final int[] banned = new int[MOST_CHILDREN];
         private final int[] looks = new int[MOST_CHILDREN];
         private final int[] prices = new int[MOST_CHILDREN * MOST_KINDS];
-        // Kept apart from the prices, as they are asked for in each of thousands of ways.
+        // Prices less what is banned, and the pairs that look: kept ready, as thousands of ways ask for them.
         private final int[] worthsOfKinds = new int[MOST_CHILDREN * MOST_KINDS];
         private final int[] lookers = new int[MOST_PAIRS];
         private final int[] lookedAt = new int[MOST_PAIRS];
@@ -565,7 +565,6 @@ public final class NineBags {
         private static final int BAD_CLAUSE = 3;
         private static final int BAD_LOOK = 4;
         private static final int MOST_FIGURES = 3;
-
         private static final int END = -1;
 
         private final int[] letters = new int[MOST_LETTERS];

@@ -5,6 +5,7 @@ public final class StateTest {
         kindsAndThings();
         children();
         envies();
+        allLookAtAll();
         wrongInputs();
         Check.finish("StateTest");
     }
@@ -91,6 +92,29 @@ public final class StateTest {
         bags.give(4, 0);
         Check.due("1 does not want what is banned", bags.envy(1, 0), 3);
         Check.due("2 at 0 with two", bags.envy(2, 0), 2);
+    }
+
+    private static void allLookAtAll() {
+        String head = "k1 1;c0 1;c0 10;c0 20;c0 30;";
+        String looks = "l0 1;l0 2;l0 3;l1 0;l1 2;l1 3;l2 0;l2 1;l2 3;l3 0;l3 1;l3 2;";
+        NineBags bags = Check.partyOf(head + looks + "t0;t0;", 4);
+        bags.give(0, 2);
+        Check.due("three envy 2", bags.told(5), 41);
+        Check.due("three cry", bags.told(6), 3);
+        Check.due("the last pair", bags.envy(3, 2), 30);
+        bags.give(1, 0);
+        Check.due("1 envies two, 3 too", bags.told(5), 80);
+        Check.due("four cry", bags.told(6), 4);
+        Check.feedAll(bags, head + "l2 1;t0;");
+        Check.due("a party in which one looks", bags.party(), 4);
+        bags.give(0, 1);
+        Check.due("it alone envies", bags.told(5), 20);
+        Check.due("it alone cries", bags.told(6), 1);
+        Check.feedAll(bags, head + "t0;");
+        Check.due("a party in which none looks", bags.party(), 4);
+        bags.give(0, 1);
+        Check.due("none envies", bags.told(5), 0);
+        Check.due("none cries", bags.told(6), 0);
     }
 
     private static void wrongInputs() {

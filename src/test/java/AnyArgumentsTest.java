@@ -8,11 +8,17 @@ public final class AnyArgumentsTest {
         "k999 99;k0 0;k5 1;k7 7;k300 50;c31 99,99,99,99,99;c0 0,0,0,0,0;c1 50,1,50,1,50;c16 1,2,3,4,5;"
             + "l0 1;l0 2;l0 3;l1 0;l1 2;l1 3;l2 0;l2 1;l2 3;l3 0;l3 1;l3 2;t0;t1;t2;t3;t4;t0;t1;"};
     private static final int CALLS = 34;
+    private static final int LAST_OF_NONE = 5;
+    private static final int FIRST_OF_TWO = 22;
+    // An object is used for 512 calls at most: up to 180 make it, some 50 are used by each trial.
+    private static final int TRIALS = 6;
 
     public static void main(String[] args) {
         for (String text : TEXTS) {
             for (int given = 0; given < 2; given++) {
-                tryAll(text, given == 1);
+                for (int call = 0; call < CALLS; call++) {
+                    tryAll(text, given == 1, call);
+                }
             }
         }
         Check.finish("AnyArgumentsTest");
@@ -35,15 +41,17 @@ public final class AnyArgumentsTest {
         return bags;
     }
 
-    private static void tryAll(String text, boolean given) {
-        NineBags bags = made(text, given);
-        for (int call = 0; call < CALLS; call++) {
-            for (int a : NUMBERS) {
-                for (int b : NUMBERS) {
-                    tryOne(bags, call, a, b, "of '" + text + "': call " + call + " (" + a + ", " + b + ")");
-                }
+    private static void tryAll(String text, boolean given, int call) {
+        int firsts = call <= LAST_OF_NONE ? 1 : NUMBERS.length;
+        int seconds = call < FIRST_OF_TWO ? 1 : NUMBERS.length;
+        NineBags bags = null;
+        for (int i = 0; i < firsts * seconds; i++) {
+            if (bags == null || i % TRIALS == 0) {
+                bags = made(text, given);
             }
-            bags = made(text, given);
+            int a = NUMBERS[i / seconds];
+            int b = NUMBERS[i % seconds];
+            tryOne(bags, call, a, b, "of '" + text + "': call " + call + " (" + a + ", " + b + ")");
         }
     }
 
@@ -76,42 +84,43 @@ public final class AnyArgumentsTest {
         return state.append(seed).append(' ').append(bags.fault()).append(' ').append(bags.judge()).toString();
     }
 
+    /** The calls that take nothing first, those that take two numbers last. */
     private static int called(NineBags bags, int call, int a, int b) {
         switch (call) {
-            case 0: return bags.feed(a);
-            case 1: return bags.fault();
-            case 2: return bags.told(a);
-            case 3: return bags.kind(a, b);
-            case 4: return bags.child(a, b);
-            case 5: return bags.gives(a, b);
-            case 6: return bags.thing(a, b);
-            case 7: return bags.envy(a, b);
-            case 8: return bags.give(a, b);
-            case 9: return bags.take(a);
-            case 10: return bags.swap(a, b);
-            case 11: return bags.draw(a);
-            case 12: return bags.drift(a);
-            case 13: return bags.undo();
-            case 14: return bags.swaps(a);
-            case 15: return bags.settled(a);
-            case 16: return bags.share(a);
-            case 17: return bags.choice(a, b);
-            case 18: return bags.bestOrder(a);
-            case 19: return bags.sweets(a, b);
-            case 20: return bags.lasts(a);
-            case 21: return bags.rises(a);
-            case 22: return bags.spare(a);
-            case 23: return bags.dry();
-            case 24: return bags.see(a, b, true);
-            case 25: return bags.see(a, b, false);
-            case 26: return bags.had(a);
-            case 27: return bags.watch();
-            case 28: return bags.write(a, b);
-            case 29: return bags.tear();
-            case 30: return bags.judge();
-            case 31: return bags.seed(a);
-            case 32: return bags.keep(a);
-            default: return bags.goBack(a);
+            case 0: return bags.fault();
+            case 1: return bags.undo();
+            case 2: return bags.dry();
+            case 3: return bags.watch();
+            case 4: return bags.tear();
+            case 5: return bags.judge();
+            case 6: return bags.feed(a);
+            case 7: return bags.told(a);
+            case 8: return bags.take(a);
+            case 9: return bags.draw(a);
+            case 10: return bags.drift(a);
+            case 11: return bags.swaps(a);
+            case 12: return bags.settled(a);
+            case 13: return bags.share(a);
+            case 14: return bags.bestOrder(a);
+            case 15: return bags.lasts(a);
+            case 16: return bags.rises(a);
+            case 17: return bags.spare(a);
+            case 18: return bags.had(a);
+            case 19: return bags.seed(a);
+            case 20: return bags.keep(a);
+            case 21: return bags.goBack(a);
+            case 22: return bags.kind(a, b);
+            case 23: return bags.child(a, b);
+            case 24: return bags.gives(a, b);
+            case 25: return bags.thing(a, b);
+            case 26: return bags.envy(a, b);
+            case 27: return bags.give(a, b);
+            case 28: return bags.swap(a, b);
+            case 29: return bags.choice(a, b);
+            case 30: return bags.sweets(a, b);
+            case 31: return bags.see(a, b, true);
+            case 32: return bags.see(a, b, false);
+            default: return bags.write(a, b);
         }
     }
 }

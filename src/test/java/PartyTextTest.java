@@ -56,14 +56,6 @@ public final class PartyTextTest {
         Check.due("letters behind a good one", bags.told(3), 0);
     }
 
-    private static void fault(String text, int fault, int place) {
-        NineBags bags = new NineBags();
-        Check.feedAll(bags, text);
-        Check.due("party() of '" + text + "'", bags.party(), -10 - fault);
-        Check.due("fault() of '" + text + "'", bags.fault(), place);
-        Check.due("letters behind '" + text + "'", bags.told(3), 0);
-    }
-
     private static void goodTexts() {
         Check.partyOf("", 0);
         Check.partyOf("   ", 0);
@@ -77,80 +69,80 @@ public final class PartyTextTest {
     }
 
     private static void cannotStand() {
-        fault("x", 1, WHOLE);
-        fault("  ;", 1, 2);
-        fault("K1 1;", 1, WHOLE);
-        fault("k", 1, 1);
-        fault("k  ", 1, 3);
-        fault("k1", 1, 2);
-        fault("k1 1", 1, 4);
-        fault("k1 1  ", 1, 6);
-        fault("k12;", 1, 3);
-        fault("k;", 1, 1);
-        fault("k-1 1;", 1, 1);
-        fault("k1,1;", 1, 2);
-        fault("k1 1 1;", 1, 5);
-        fault("k1 1;;", 1, 5);
-        fault("k1 1\t;", 1, 4);
-        fault("\t", 1, 0);
-        fault("k1 1;c0 1,", 1, 9);
-        fault("k1 1;c0 1 1;", 1, 10);
-        fault("k1 1;k1 1;c0 1,", 1, 15);
-        fault("k1 1;k1 1;c0 1", 1, 14);
-        fault("k1 1;k1 1;c0 1 ;", 1, 15);
-        fault("k1 1;k1 1;c0 1 2;", 1, 15);
-        fault("k1 1;k1 1;c0 1,2,3;", 1, 16);
-        fault("k1 1;k1 1;c0,1,2;", 1, 12);
-        fault("k1 1;t;", 1, 6);
-        fault("k1 1;t0 0;", 1, 8);
-        fault("k1 1;c0 1;c0 1;l0;", 1, 17);
-        fault("k1 1;c0 1;c0 1;l0,1;", 1, 17);
-        fault("k1 1;c0 1;c0 1;l0 1 0;", 1, 20);
-        fault("kk", 1, 1);
+        Check.faultOf("x", 1, WHOLE);
+        Check.faultOf("  ;", 1, 2);
+        Check.faultOf("K1 1;", 1, WHOLE);
+        Check.faultOf("k", 1, 1);
+        Check.faultOf("k  ", 1, 3);
+        Check.faultOf("k1", 1, 2);
+        Check.faultOf("k1 1", 1, 4);
+        Check.faultOf("k1 1  ", 1, 6);
+        Check.faultOf("k12;", 1, 3);
+        Check.faultOf("k;", 1, 1);
+        Check.faultOf("k-1 1;", 1, 1);
+        Check.faultOf("k1,1;", 1, 2);
+        Check.faultOf("k1 1 1;", 1, 5);
+        Check.faultOf("k1 1;;", 1, 5);
+        Check.faultOf("k1 1\t;", 1, 4);
+        Check.faultOf("\t", 1, 0);
+        Check.faultOf("k1 1;c0 1,", 1, 9);
+        Check.faultOf("k1 1;c0 1 1;", 1, 10);
+        Check.faultOf("k1 1;k1 1;c0 1,", 1, 15);
+        Check.faultOf("k1 1;k1 1;c0 1", 1, 14);
+        Check.faultOf("k1 1;k1 1;c0 1 ;", 1, 15);
+        Check.faultOf("k1 1;k1 1;c0 1 2;", 1, 15);
+        Check.faultOf("k1 1;k1 1;c0 1,2,3;", 1, 16);
+        Check.faultOf("k1 1;k1 1;c0,1,2;", 1, 12);
+        Check.faultOf("k1 1;t;", 1, 6);
+        Check.faultOf("k1 1;t0 0;", 1, 8);
+        Check.faultOf("k1 1;c0 1;c0 1;l0;", 1, 17);
+        Check.faultOf("k1 1;c0 1;c0 1;l0,1;", 1, 17);
+        Check.faultOf("k1 1;c0 1;c0 1;l0 1 0;", 1, 20);
+        Check.faultOf("kk", 1, 1);
     }
 
     private static void badNumbers() {
-        fault("k1000 1;", 2, 1);
-        fault("k0001 1;", 2, 1);
-        fault("k99999999999999999999 1;", 2, 1);
-        fault("k1  100;", 2, 4);
-        fault("k1 1;c32 1;", 2, 6);
-        fault("k1 1;c0 100;", 2, 8);
-        fault("k1 1;k1 1;c0 1, 100;", 2, 16);
-        fault("t0;", 2, 1);
-        fault("k1 1;t1;", 2, 6);
-        fault("k1 1;t 1;k1 1;", 2, 7);
-        fault("l0 1;", 2, 1);
-        fault("k1 1;c0 1;l1 0;", 2, 11);
-        fault("k1 1;c0 1;l0 1;c0 1;", 2, 13);
-        fault("k1 1;c0 1;l0 1", 2, 13);
-        fault("k1000", 2, 1);
+        Check.faultOf("k1000 1;", 2, 1);
+        Check.faultOf("k0001 1;", 2, 1);
+        Check.faultOf("k99999999999999999999 1;", 2, 1);
+        Check.faultOf("k1  100;", 2, 4);
+        Check.faultOf("k1 1;c32 1;", 2, 6);
+        Check.faultOf("k1 1;c0 100;", 2, 8);
+        Check.faultOf("k1 1;k1 1;c0 1, 100;", 2, 16);
+        Check.faultOf("t0;", 2, 1);
+        Check.faultOf("k1 1;t1;", 2, 6);
+        Check.faultOf("k1 1;t 1;k1 1;", 2, 7);
+        Check.faultOf("l0 1;", 2, 1);
+        Check.faultOf("k1 1;c0 1;l1 0;", 2, 11);
+        Check.faultOf("k1 1;c0 1;l0 1;c0 1;", 2, 13);
+        Check.faultOf("k1 1;c0 1;l0 1", 2, 13);
+        Check.faultOf("k1000", 2, 1);
     }
 
     private static void badClauses() {
-        fault("k1 1;k1 1;k1 1;k1 1;k1 1;k1 1;", 3, 25);
-        fault("k1 1;c0 1; k1 1;", 3, 11);
-        fault("k1 1;c0 1;k", 3, 10);
-        fault("k1 1;c0 1;c0 1;c0 1;c0 1;c0 1;", 3, 25);
-        fault("c", 3, 0);
-        fault("  c0;", 3, 2);
-        fault("k1 1;t0;t0;t0;t0;t0;t0;t0;t0;", 3, 26);
-        fault("k1 1;t0;t0;t0;t0;t0;t0;t0;t9999;", 3, 26);
+        Check.faultOf("k1 1;k1 1;k1 1;k1 1;k1 1;k1 1;", 3, 25);
+        Check.faultOf("k1 1;c0 1; k1 1;", 3, 11);
+        Check.faultOf("k1 1;c0 1;k", 3, 10);
+        Check.faultOf("k1 1;c0 1;c0 1;c0 1;c0 1;c0 1;", 3, 25);
+        Check.faultOf("c", 3, 0);
+        Check.faultOf("  c0;", 3, 2);
+        Check.faultOf("k1 1;t0;t0;t0;t0;t0;t0;t0;t0;", 3, 26);
+        Check.faultOf("k1 1;t0;t0;t0;t0;t0;t0;t0;t9999;", 3, 26);
     }
 
     private static void badLooks() {
-        fault("k1 1;c0 1;l0 0;", 4, 13);
-        fault("k1 1;c0 1;l0   00", 4, 15);
-        fault("k1 1;c0 1;c0 1;l0 1;l1 0;l0 1;", 4, 28);
-        fault("k1 1;c0 1;c0 1;l1 0;l1 1;", 4, 23);
+        Check.faultOf("k1 1;c0 1;l0 0;", 4, 13);
+        Check.faultOf("k1 1;c0 1;l0   00", 4, 15);
+        Check.faultOf("k1 1;c0 1;c0 1;l0 1;l1 0;l0 1;", 4, 28);
+        Check.faultOf("k1 1;c0 1;c0 1;l1 0;l1 1;", 4, 23);
     }
 
     private static void firstFaultWins() {
-        fault("k1 1;c0 1000;x", 2, 8);
-        fault("k1 1 x k1000 1;", 1, 5);
-        fault("k1 1;c0 1;l0 0 x", 4, 13);
-        fault("k1 1;t0 k", 1, 8);
-        fault("k1 1;c0 1;k1000", 3, 10);
+        Check.faultOf("k1 1;c0 1000;x", 2, 8);
+        Check.faultOf("k1 1 x k1000 1;", 1, 5);
+        Check.faultOf("k1 1;c0 1;l0 0 x", 4, 13);
+        Check.faultOf("k1 1;t0 k", 1, 8);
+        Check.faultOf("k1 1;c0 1;k1000", 3, 10);
     }
 
     private static void faultChangesNothing() {

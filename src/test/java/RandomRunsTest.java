@@ -3,7 +3,9 @@ import java.util.Random;
 /** Long runs of calls, good and wrong ones, on an object and on the plain model: both answer alike. */
 public final class RandomRunsTest {
     private static final int RUNS = 1500;
+    // An object is used for 512 calls at most; a turn makes three at most.
     private static final int CALLS = 512;
+    private static final int CALLS_OF_A_TURN = 3;
 
     private final Random random;
     private final int run;
@@ -26,7 +28,7 @@ public final class RandomRunsTest {
     private void go() {
         int most = 2 + random.nextInt(6);
         tellParty(most);
-        while (calls < CALLS && Check.isFine()) {
+        while (calls + CALLS_OF_A_TURN <= CALLS && Check.isFine()) {
             if (random.nextInt(150) == 0) {
                 tellParty(most);
             }
@@ -43,6 +45,9 @@ public final class RandomRunsTest {
         String text = random.nextInt(12) == 0 ? "" : goodText(mostThings);
         if (random.nextInt(3) == 0) {
             text = spoilt(text);
+        }
+        if (calls + text.length() + 2 + CALLS_OF_A_TURN > CALLS) {
+            return;
         }
         for (int i = 0; i < text.length(); i++) {
             same("feed " + text.charAt(i), bags.feed(text.charAt(i)), model.feed(text.charAt(i)));

@@ -217,6 +217,9 @@ public final class TextBoundsTest {
             }
         }
 
+        endOfFullText();
+        endBehindLongerText();
+
         Check.sentence("of these the least");
         Check.faultOf("k1 1 1000;", 1, 5);
         Check.faultOf("1000", 1, 0);
@@ -225,6 +228,30 @@ public final class TextBoundsTest {
         Check.faultOf(KIND + "c0 1,1000;", 1, 9);
         Check.faultOf(TWO + "l0 0000;", 2, 18);
         Check.faultOf(TWO + "l0 1;l0 0001;", 2, 23);
+    }
+
+    /** Whatever is missing, nothing behind the 240th letter is looked at. */
+    private static void endOfFullText() {
+        Check.sentence("(the end at the text's length: 240)");
+        String[] ends = {"k", "k1", "k1 ", "k1 1", KIND + "c", KIND + "c0", KIND + "c0 1", KIND.repeat(2) + "c0 1", KIND.repeat(2) + "c0 1,",
+            TWO + "l", TWO + "l0", TWO + "l0 1", KIND + "t", KIND + "t0"};
+        for (String end : ends) {
+            Check.faultOf(Check.atEndOf(240, end), 1, 240);
+        }
+        Check.partyOf(Check.atEndOf(240, KIND), 0);
+    }
+
+    /** Letters of an earlier, longer text are no part of this one, though they would make it whole. */
+    private static void endBehindLongerText() {
+        Check.sentence("THE TEXT (it is empty then): the end at the text's length, behind a longer one, too");
+        for (int length = 1; length < Check.NINE.length(); length++) {
+            NineBags bags = Check.partyOf(Check.NINE, 3);
+            String part = Check.NINE.substring(0, length);
+            boolean whole = part.endsWith(";");
+            Check.feedAll(bags, part);
+            Check.due("'" + part + "' is whole", bags.party() >= 0 ? 1 : 0, whole ? 1 : 0);
+            Check.due("fault() of '" + part + "'", bags.fault(), whole ? NineBags.NONE : length);
+        }
     }
 
     private static void faultOne() {
